@@ -227,9 +227,8 @@ public final class SplayOrchard {
     public int depthBehind(int row, int size, int other)
             throws IndexOutOfBoundsException, IllegalStateException {
         Tree tree = treeOf(row);
-        Apple apple = appleOf(tree, size);
-        appleOf(tree, other);
-        tryEating(tree, apple);
+        tryEating(tree, appleOf(tree, size));
+        // The trial tree has the same sizes, so that it refuses the ones that the row lacks.
         return appleOf(trial, other).depth();
     }
 

@@ -9,19 +9,20 @@ final class RandomRunsTest {
     private static final Check CHECK = new Check();
     private static final int RUNS = 120;
     private static final int CALLS = 512;
+    private static final int ROWS = 6;
     private static final int CHANGES = 5;
     private static final int KINDS = 33;
 
     private final Random random;
     private final int mostSize;
-    private final int mostRow;
+    private final int plantRows;
     private final SplayOrchard real = new SplayOrchard();
     private final PlainOrchard plain = new PlainOrchard();
 
     private RandomRunsTest(int seed) {
         random = new Random(seed);
         mostSize = seed % 3 == 0 ? 45 : seed % 3 == 1 ? 120 : 999;
-        mostRow = 1 + seed % 6;
+        plantRows = 1 + seed % 5;
     }
 
     public static void main(String[] args) {
@@ -35,10 +36,10 @@ final class RandomRunsTest {
         int made = 0;
         while (made < CALLS - 1) {
             int kind = kind(made);
-            int a = row();
+            int a = row(kind == 0 ? plantRows : ROWS);
+            int other = kind == 4 ? partner(a) : row(ROWS);
             int b = size(a);
-            int c = kind == 3 ? row() : size(a);
-            int other = row();
+            int c = kind == 3 ? target() : size(a);
             String call = "seed " + seed + ", call " + made + ", kind " + kind + " of " + a + ", " + b
                     + ", " + c + ", " + other;
             String due = outcome(() -> ofPlain(kind, a, b, c, other));
@@ -60,12 +61,33 @@ final class RandomRunsTest {
         return draw < 6 ? random.nextInt(CHANGES) : random.nextInt(KINDS);
     }
 
-    private int row() {
+    private int row(int below) {
         if (random.nextInt(40) == 0) {
             int[] outside = {-1, 6, Integer.MIN_VALUE, Integer.MAX_VALUE};
             return outside[random.nextInt(outside.length)];
         }
-        return random.nextInt(mostRow);
+        return random.nextInt(below);
+    }
+
+    /** A row to join with: mostly one that this can be joined with, as a drawn one seldom is. */
+    private int partner(int first) {
+        for (int row = 0; row < ROWS && random.nextInt(8) > 0; row++) {
+            boolean asked = first >= 0 && first < ROWS && plain.sizeOf(row) > 0;
+            if (asked && plain.canJoin(first, row)) {
+                return row;
+            }
+        }
+        return row(ROWS);
+    }
+
+    /** A row to split into: mostly an empty one, as a drawn one seldom is. */
+    private int target() {
+        for (int row = 0; row < ROWS && random.nextInt(8) > 0; row++) {
+            if (plain.sizeOf(row) == 0) {
+                return row;
+            }
+        }
+        return row(ROWS);
     }
 
     /** Mostly that of an apple which is there. */
