@@ -3,39 +3,28 @@ final class Looks {
     private Looks() {
     }
 
-    /** Everything that the calls tell of all rows, and the turnings. */
-    static String of(SplayOrchard orchard) {
-        StringBuilder text = new StringBuilder();
-        for (int row = 0; row < 6; row++) {
-            text.append(tree(orchard, row)).append(bites(orchard, row)).append(' ');
-        }
-        return text.append(orchard.turnings()).append(' ').append(orchard.digest()).toString();
-    }
-
-    /** A tree: its left part, its top and its right part in brackets; a dot where nothing hangs. */
+    /**
+     * A tree: its left part, its top and its right part in brackets; a dot where nothing hangs. An
+     * apple whose above() or depthOf() does not fit to that has a sign behind its size.
+     */
     static String tree(SplayOrchard orchard, int row) {
-        return under(orchard, row, orchard.top(row));
+        return under(orchard, row, -1, orchard.top(row), 0);
     }
 
-    private static String under(SplayOrchard orchard, int row, int size) {
+    /** How many calls tree() takes for so many apples. */
+    static int callsOfTree(int apples) {
+        return 1 + 4 * apples;
+    }
+
+    private static String under(SplayOrchard orchard, int row, int above, int size, int depth) {
         if (size == -1) {
             return ".";
         }
-        String left = under(orchard, row, orchard.leftOf(row, size));
-        String right = under(orchard, row, orchard.rightOf(row, size));
-        if (left.equals(".") && right.equals(".")) {
-            return String.valueOf(size);
-        }
-        return "(" + left + " " + size + " " + right + ")";
-    }
-
-    /** How often one ate from each, in the order of sizes. */
-    static String bites(SplayOrchard orchard, int row) {
-        StringBuilder text = new StringBuilder("[");
-        for (int place = 0; place < orchard.sizeOf(row); place++) {
-            text.append(place == 0 ? "" : " ");
-            text.append(orchard.eaten(row, orchard.inOrder(row, place)));
-        }
-        return text.append(']').toString();
+        String left = under(orchard, row, size, orchard.leftOf(row, size), depth + 1);
+        String right = under(orchard, row, size, orchard.rightOf(row, size), depth + 1);
+        String apple = size + (orchard.above(row, size) == above ? "" : "!above")
+                + (orchard.depthOf(row, size) == depth ? "" : "!depth");
+        return left.equals(".") && right.equals(".") ? apple
+                : "(" + left + " " + apple + " " + right + ")";
     }
 }
