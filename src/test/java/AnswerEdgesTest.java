@@ -11,6 +11,7 @@ final class AnswerEdgesTest {
     public static void main(String[] args) {
         favouriteOfSeveral();
         bestToEatOfSeveral();
+        bestToEatByDepths();
         places();
         smallerOnes();
         leastHeights();
@@ -59,6 +60,33 @@ final class AnswerEdgesTest {
             eat 0 20 = 2
             depths 0 = 4
             bestToEat 0 = 20
+            """);
+        SCRIPT.play("bestToEat, three with 9 added depths", """
+            plants 0 20 60 30 50 40 10
+            tree 0 = (. 10 ((. 20 30) 40 (. 50 60)))
+            bestToEat 0 = 20
+            """);
+    }
+
+    /** The least sum of depths need not come with the least height: 40 would leave 4 levels too. */
+    private static void bestToEatByDepths() {
+        SCRIPT.play("bestToEat, by the depths alone", """
+            plants 0 70 20 60 50 40 30 10
+            tree 0 = (. 10 (. 20 (. 30 (. 40 (. 50 (. 60 70))))))
+            heightBehind 0 40 = 4
+            heightBehind 0 50 = 4
+            bestToEat 0 = 50
+            eat 0 50 = 4
+            depths 0 = 11
+            """);
+        SCRIPT.play("bestToEat, not the least height", """
+            plants 0 80 60 70 50 30 20 10 40
+            heightBehind 0 40 = 5
+            heightBehind 0 50 = 4
+            bestToEat 0 = 40
+            depths 0 = 15
+            eat 0 50 = 1
+            depths 0 = 15
             """);
     }
 

@@ -13,6 +13,7 @@ final class BringUpTest {
         oddDepths();
         evenDepths();
         plantingBringsUpToo();
+        refusedBitesBringUpNothing();
         SCRIPT.end();
     }
 
@@ -131,6 +132,29 @@ final class BringUpTest {
             plant 0 60 = 2
             tree 0 = ((((10 20 30) 40 .) 50 .) 60 .)
             turnings = 10
+            """);
+    }
+
+    /** Not even the last one on the way to an apple that is not there. */
+    private static void refusedBitesBringUpNothing() {
+        SCRIPT.play("no such apple", """
+            eat 0 20 ! IllegalState
+            plants 0 50 10 30 20 40
+            plants 5 35
+            eat 0 5 ! IllegalState
+            eat 0 15 ! IllegalState
+            eat 0 25 ! IllegalState
+            eat 0 35 ! IllegalState
+            eat 0 45 ! IllegalState
+            eat 0 55 ! IllegalState
+            eat 5 30 ! IllegalState
+            eat 1 30 ! IllegalState
+            eat 6 30 ! IndexOutOfBounds
+            eat -1 30 ! IndexOutOfBounds
+            turnings = 8
+            tree 0 = ((10 20 30) 40 50)
+            tree 5 = 35
+            eaten 0 30 = 0
             """);
     }
 }

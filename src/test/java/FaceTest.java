@@ -84,7 +84,15 @@ final class FaceTest {
             if (Modifier.isStatic(modifiers) && !Modifier.isFinal(modifiers)) {
                 CHECK.complain(field + " is static and not final");
             }
+            if (Modifier.isStatic(modifiers) && !isConstant(field.getType())) {
+                CHECK.complain(field + " is static and an object");
+            }
         }
+    }
+
+    private static boolean isConstant(Class<?> type) {
+        Class<?> of = type.isArray() ? type.getComponentType() : type;
+        return of.isPrimitive() || type == String.class;
     }
 
     private static String textOf(Method method) {

@@ -156,7 +156,8 @@ final class SizesTest {
     /** A call that takes an apple's size names no IllegalArgumentException: none is there. */
     private static void notThere(int size) {
         SCRIPT.play("no apple of the size " + size, """
-            plants 0 500
+            plants 0 300 700 500
+            tree 0 = (300 500 700)
             eat 0 S ! IllegalState
             pick 0 S ! IllegalState
             depthOf 0 S ! IllegalState
@@ -173,6 +174,7 @@ final class SizesTest {
             depthBehind 0 S S ! IllegalState
             heightBehind 0 S ! IllegalState
             has 0 S = false
+            tree 0 = (300 500 700)
             """.replace("S ", size + " "));
     }
 }
