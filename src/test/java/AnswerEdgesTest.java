@@ -299,5 +299,11 @@ final class AnswerEdgesTest {
             pick 0 40 = 0
             meanDepth 0 = 1.0
             """);
+        SCRIPT.play("meanDepth, 6 by 5", """
+            plants 0 50 10 30 20 40
+            tree 0 = ((10 20 30) 40 50)
+            depths 0 = 6
+            meanDepth 0 = 1.2
+            """);
     }
 }
